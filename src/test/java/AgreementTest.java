@@ -14,25 +14,27 @@ import java.util.Random;
 public final class AgreementTest {
     private static final int CALLS = 512;
 
-    /** Each method with the ranges of its arguments: g, p, y, c, w are the numbers of what there may be of each. */
+    /** Each method with the ranges of its arguments; a name that NaiveHouse.sizeOf knows is one of what there is. */
     private static final String[] FACE = {
         "number 0:255 0:255", "choice g g 1:9", "list g 0:8", "pair g g", "filter g 2:9 0:8", "depends g g",
-        "tree g 0:4", "word 0:5 1:12", "kindOf g", "draw g seed", "type 0:255", "erase", "replay g", "value 0:9",
-        "draws", "drawAt 0:20", "inputs g", "inputLength g big", "inputAt g big 0:12", "program",
+        "tree g 0:4", "word 0:5 1:12", "kindOf g", "draw g seed", "type 0:255", "erase", "replay g", "value value",
+        "draws", "drawAt draw", "inputs g", "inputLength g big", "inputAt g big 0:4", "program",
         "instruct p kind 0:255 0:15", "faultOf p", "output p", "classOf p", "edges p", "level p 0:15 0:16",
         "property prop 0:12 0:5", "require y 1:3 0:2", "holds y", "run y g seed 1:100 0:100", "tested", "discarded",
-        "label 0:3", "unseen", "shrink 1:400", "failureClass", "failureDraw 0:12", "failureValue 0:9", "isReplayed",
-        "search p g seed 0:100", "corpus", "corpusDraw 0:12 0:9", "energy 0:19", "classes", "foundClass 0:5",
-        "leastLength 0:5", "covered", "queue 1:4 0:3", "command 0:3 0:12", "answer c bool", "breaksAt", "makeSmall",
-        "commandAt c bool", "beside 0:1 0:1 -9:9", "apart", "schedule any 0:1 0:3", "isInOrder any", "disorders",
-        "produce 0:5 sym more more more", "words 0:5 1:12", "letterAt 0:5 1:12 big 0:11", "least p p", "breakShare",
-        "isSound",
+        "label 0:3", "unseen", "shrink 1:400", "failureClass", "failureDraw fdraw", "failureValue fvalue",
+        "isReplayed", "search p g seed 0:100", "corpus", "corpusDraw row 0:9", "energy row", "classes",
+        "foundClass found", "leastLength found", "covered", "queue 1:4 0:3", "command 0:3 0:12", "answer c bool",
+        "breaksAt", "makeSmall", "commandAt c bool", "beside 0:1 0:1 -9:9", "apart", "schedule any 0:1 0:3",
+        "isInOrder any", "disorders", "produce 0:5 sym more more more", "words 0:5 1:12", "letterAt nt len word place",
+        "least p p", "breakShare", "isSound",
     };
 
     private final Random random;
     private final Shrinkery house = new Shrinkery();
     private final NaiveHouse naive = new NaiveHouse();
     private final List<String> calls = new ArrayList<>();
+    private int nonterminal;
+    private int length = 1;
     private static final Map<String, Method> METHODS = new HashMap<>();
     private static final Map<String, Method> NAIVE = new HashMap<>();
     private static final Map<String, int[]> TALLY = new HashMap<>();
@@ -78,6 +80,8 @@ public final class AgreementTest {
         for (int i = 0; i < CALLS; i++) {
             String line = i < setUp ? setUpCall(i) : focused(focus);
             String[] words = line.split(" ");
+            nonterminal = 0;
+            length = 1;
             Object[] arguments = new Object[words.length - 1];
             boolean isWild = random.nextInt(i < setUp ? 40 : 12) == 0;
             for (int j = 0; j < arguments.length; j++) {
@@ -97,25 +101,35 @@ public final class AgreementTest {
             "produce 0:2 sym more more more", "command 0:3 0:12", "command 0:3 0:12", "beside 0:1 0:1 -9:9",
             "type 0:255", "instruct p kind 0:12 0:15", "instruct p kind 0:12 0:15", "instruct p kind 0:12 0:15",
             "instruct p kind 0:12 0:15", "instruct p kind 0:12 0:15"};
-        return i == 0 ? "number 0:2 3:9" : some[random.nextInt(some.length)];
+        String[] first = {"number 0:2 3:9", "produce 0:5 10:14 none none none", "produce 0:2 10:14 none none none",
+            "produce 3:5 10:14 more none none"};
+        return i < first.length ? first[i] : some[random.nextInt(some.length)];
     }
 
     private String focused(int focus) {
         String[][] some = {
-            {"run y g seed 1:100 0:100", "shrink 1:400", "failureDraw 0:12", "failureValue 0:9", "isReplayed",
-                "least p p", "unseen", "instruct p kind 0:12 0:15"},
-            {"search p g seed 20:100", "corpusDraw 0:12 0:9", "energy 0:19", "foundClass 0:5", "leastLength 0:5",
-                "covered"},
-            {"command 0:3 0:12", "answer c bool", "breaksAt", "makeSmall", "commandAt c bool", "queue 1:4 0:3"},
-            {"beside 0:1 0:1 -9:9", "schedule any 0:1 0:3", "isInOrder any", "disorders"},
-            {"words 0:5 1:12", "letterAt 0:5 1:12 0:9 0:11", "letterAt 0:5 1:12 big 0:11", "draw g seed", "value 0:9"},
-            {"draw g seed", "replay g", "value 0:9", "level p 0:15 0:16", "faultOf p", "classOf p", "holds y",
-                "inputAt g big 0:12", "inputLength g big", "edges p", "output p"},
+            {"run y g seed 1:100 0:100", "shrink 1:400", "failureDraw fdraw", "failureDraw fdraw",
+                "failureValue fvalue", "failureValue fvalue", "failureClass", "isReplayed", "least p p", "unseen",
+                "instruct p kind 0:12 0:15", "require y 1:3 0:2"},
+            {"search p g seed 20:100", "corpusDraw row 0:9", "corpusDraw row 0:9", "energy row", "energy row",
+                "foundClass found", "leastLength found", "covered"},
+            {"command 0:0 0:99", "command 0:0 0:12", "command 1:2 0:3", "command 3:3 c", "command 0:3 0:12",
+                "answer c bool", "answer c bool", "breaksAt", "makeSmall", "commandAt c bool", "commandAt c bool",
+                "random queue"},
+            {"beside 0:1 0:1 -9:9", "schedule any 0:1 0:3", "isInOrder any", "isInOrder any", "disorders"},
+            {"words 0:5 1:12", "letterAt nt len word place", "letterAt nt len word place", "draw g seed",
+                "value value", "word 0:5 1:6"},
+            {"draw g seed", "replay g", "value value", "level p 0:15 0:16", "faultOf p", "classOf p", "holds y",
+                "inputAt g big 0:4", "inputLength g big", "edges p", "output p", "drawAt draw", "type 0:255"},
         };
+        // What takes a lot away would seldom leave enough behind it to go on with.
+        String[] rare = {"queue", "apart", "erase"};
         if (random.nextInt(3) == 0) {
-            return FACE[random.nextInt(FACE.length)];
+            String line = FACE[random.nextInt(FACE.length)];
+            return Arrays.asList(rare).contains(line.split(" ")[0]) && random.nextInt(4) > 0 ? "isSound" : line;
         }
-        return some[focus][random.nextInt(some[focus].length)];
+        String line = some[focus][random.nextInt(some[focus].length)];
+        return !line.equals("random queue") ? line : random.nextInt(3) == 0 ? "queue 1:4 0:3" : "covered";
     }
 
     private int between(int least, int most) {
@@ -128,7 +142,7 @@ public final class AgreementTest {
             case "bool":
                 return random.nextBoolean();
             case "kind":
-                return isWild ? (char) random.nextInt(300) : "rrr++*%<<<==ejoox".charAt(random.nextInt(17));
+                return isWild ? (char) random.nextInt(300) : "rrrr+*%<<<==ejoxx".charAt(random.nextInt(17));
             case "prop":
                 return isWild ? (char) random.nextInt(300) : "souppddd".charAt(random.nextInt(8));
             default:
@@ -138,14 +152,21 @@ public final class AgreementTest {
             return wild[random.nextInt(wild.length)];
         }
         switch (range) {
-            case "g":
-                return between(0, 15);
-            case "p":
-                return between(0, 3);
-            case "y":
-                return between(0, 7);
-            case "c":
-                return between(0, 12);
+            case "g": case "p": case "y": case "c": case "value": case "draw": case "fdraw": case "fvalue": case "row":
+            case "found":
+                return between(0, Math.max(0, naive.sizeOf(range) - 1));
+            case "nt":
+                nonterminal = between(0, 5);
+                return nonterminal;
+            case "len":
+                length = between(1, 12);
+                return length;
+            case "word":
+                return random.nextInt(Math.max(1, naive.words(nonterminal, length)));
+            case "place":
+                return between(0, length - 1);
+            case "none":
+                return -1;
             case "seed":
                 return random.nextInt(20) == 0 ? random.nextInt() : between(0, 50);
             case "any":

@@ -97,6 +97,23 @@ public final class NaiveHouse {
         }
     }
 
+    /** How many there are of what a letter or word names, so that a test can name one that there is. */
+    int sizeOf(String what) {
+        return switch (what) {
+            case "g" -> gens.size();
+            case "p" -> programs.size();
+            case "y" -> properties.size();
+            case "c" -> commands.size();
+            case "value" -> input == null ? 0 : input.values.size();
+            case "draw" -> draws();
+            case "fdraw" -> failure == null ? 0 : failure.row.size();
+            case "fvalue" -> failure == null ? 0 : failure.values.size();
+            case "row" -> corpus.size();
+            case "found" -> found.size();
+            default -> 0;
+        };
+    }
+
     // ---- checks
 
     private static void iae(boolean wrong) {
