@@ -1626,7 +1626,7 @@ public final class Shrinkery {
                 if (at >= stepsOf(way)) {
                     way++;
                     step = 0;
-                } else if (isCandidate(way, at)) {
+                } else if (makeCandidate(way, at)) {
                     return true;
                 }
             }
@@ -1650,21 +1650,22 @@ public final class Shrinkery {
             return 8 >> byWay;
         }
 
-        private boolean isCandidate(int byWay, int at) {
-            candidate.becomeRow(kept);
+        /** Makes the candidate of a step, and returns whether there is one. */
+        private boolean makeCandidate(int byWay, int at) {
             switch (byWay) {
                 case LOWER:
-                    return isLowered(at / 3, at % 3);
+                    return lower(at / 3, at % 3);
                 case EXCHANGED:
-                    return isExchanged(at);
+                    return exchange(at, at + 1);
                 case LOWER_TWICE:
-                    return kept.length > 0 && isLoweredTwice(at / kept.length, at % kept.length);
+                    return kept.length > 0 && lowerTwice(at / kept.length, at % kept.length);
                 default:
-                    return isShortened(kept.length - leftOut(byWay) - at, leftOut(byWay));
+                    return shorten(kept.length - leftOut(byWay) - at, leftOut(byWay));
             }
         }
 
-        private boolean isShortened(int place, int by) {
+        private boolean shorten(int place, int by) {
+            candidate.becomeRow(kept);
             for (int i = place; i >= 0 && i + by < kept.length; i++) {
                 candidate.row[i] = kept.row[i + by];
             }
@@ -1672,36 +1673,46 @@ public final class Shrinkery {
             return true;
         }
 
-        private boolean isLowered(int place, int how) {
+        private boolean lower(int place, int how) {
             int draw = kept.row[place];
+            if (draw == 0) {
+                return false;
+            }
+            candidate.becomeRow(kept);
             candidate.row[place] = how == 0 ? 0 : how == 1 ? draw / 2 : draw - 1;
-            return draw != 0;
+            return true;
         }
 
-        private boolean isExchanged(int place) {
-            candidate.row[place] = kept.row[place + 1];
-            candidate.row[place + 1] = kept.row[place];
-            return kept.row[place] > kept.row[place + 1];
+        private boolean exchange(int place, int next) {
+            if (kept.row[place] <= kept.row[next]) {
+                return false;
+            }
+            candidate.becomeRow(kept);
+            candidate.row[place] = kept.row[next];
+            candidate.row[next] = kept.row[place];
+            return true;
         }
 
-        private boolean isLoweredTwice(int first, int second) {
-            candidate.row[first] = kept.row[first] - 1;
-            candidate.row[second] = kept.row[second] - 1;
-            return first < second && kept.row[first] != 0 && kept.row[second] != 0;
+        private boolean lowerTwice(int first, int second) {
+            if (first >= second || kept.row[first] == 0 || kept.row[second] == 0) {
+                return false;
+            }
+            candidate.becomeRow(kept);
+            candidate.row[first]--;
+            candidate.row[second]--;
+            return true;
         }
     }
 
     /** The last run, and how many there were. */
     private static final class Trial {
-        private static final int MOST_KEPT = 101;
-
         private final Maker maker;
         private final Properties properties;
         private final Failure failure;
         private final Input made = new Input();
         private final int[] labels = new int[4];
-        private final int[] sizes = new int[MOST_KEPT];
-        private final int[] values = new int[MOST_KEPT * MOST_VALUES];
+        private final int[] sizes = new int[MOST_RUN];
+        private final int[] values = new int[MOST_RUN * MOST_VALUES];
         private int kept;
         private int good;
         private int dropped;
@@ -1717,7 +1728,7 @@ public final class Shrinkery {
         private char test(int property, int generator, int seed, int many, int discards) {
             begin();
             // Each input but the last one is counted as good or as discarded.
-            for (int i = 0; i <= many + discards; i++) {
+            for (int i = 0; i < many + discards; i++) {
                 if (!maker.makeInto(generator, null, seed + i, made) || !properties.isMet(property, made)) {
                     dropped++;
                     if (dropped > discards) {
@@ -1752,7 +1763,7 @@ public final class Shrinkery {
         }
 
         private void keepValues() {
-            if (kept >= MOST_KEPT) {
+            if (kept >= MOST_RUN) {
                 return;
             }
             sizes[kept] = made.size;
@@ -1839,7 +1850,7 @@ public final class Shrinkery {
             generator = byGenerator;
             z = seed;
             if (maker.makeInto(generator, null, seed, tried)) {
-                isNew();
+                look();
                 keepTried();
                 for (int i = 0; i < rounds; i++) {
                     playRound();
@@ -1871,15 +1882,20 @@ public final class Shrinkery {
             int second = takeNumber();
             int third = takeNumber();
             change(corpus[row], how, second, third);
-            if (maker.makeInto(generator, changed, 0, tried) && isNew() && rows < MOST_ROWS) {
+            if (maker.makeInto(generator, changed, 0, tried) && look() && rows < MOST_ROWS) {
                 keepTried();
             }
         }
 
         private int strongest() {
             int best = 0;
+            int most = energyOf(best);
             for (int i = 1; i < rows; i++) {
-                best = energyOf(i) > energyOf(best) ? i : best;
+                int energy = energyOf(i);
+                if (energy > most) {
+                    best = i;
+                    most = energy;
+                }
             }
             return best;
         }
@@ -1937,7 +1953,7 @@ public final class Shrinkery {
         }
 
         /** Executes the program, counts its fault, and returns whether an edge has a level that was not seen. */
-        private boolean isNew() {
+        private boolean look() {
             programs.execute(program, tried);
             boolean isNew = false;
             for (int i = 0; i < programs.edgeCount; i++) {

@@ -55,7 +55,8 @@ public final class AgreementTest {
             }
         }
         for (long seed = from; seed < from + runs; seed++) {
-            if (!new AgreementTest(seed).isAgreed()) {
+            if (!new AgreementTest(seed).isAgreed() || !new AgreementTest(seed).isLeastAgreed()
+                    || !new AgreementTest(seed).isSearchAgreed()) {
                 System.out.println("no agreement by the seed " + seed);
                 System.exit(1);
             }
@@ -92,6 +93,63 @@ public final class AgreementTest {
             }
         }
         return true;
+    }
+
+    private boolean isLineAgreed(String line) {
+        String[] words = line.split(" ");
+        Object[] arguments = new Object[words.length - 1];
+        for (int j = 0; j < arguments.length; j++) {
+            arguments[j] = argument(words[j + 1], false);
+        }
+        return isCallAgreed(words[0], arguments);
+    }
+
+    private boolean areAgreed(String... lines) {
+        for (String line : lines) {
+            if (!isLineAgreed(line)) {
+                return false;
+            }
+        }
+        return true;
+    }
+
+    /** Least sets of changes between long programs, most of whose instructions are otherwise. */
+    private boolean isLeastAgreed() {
+        boolean isAgreed = areAgreed("number 0:0 255:255", "list 0:0 4:4");
+        isAgreed &= isCallAgreed("property", new Object[] {'s', 0, 0}) && isLineAgreed("run 0:0 1:1 seed 9:9 9:9");
+        String[] kinds = {"+++r<<j%o", "+++r<<=e%xxo"};
+        for (int program = 0; program < 4; program++) {
+            isAgreed &= isLineAgreed("program");
+            for (int i = 0; i < 16; i++) {
+                String some = kinds[program % 2];
+                char kind = some.charAt(random.nextInt(some.length()));
+                isAgreed &= isCallAgreed("instruct", new Object[] {program, kind, between(0, 9), between(i / 2, 15)});
+            }
+        }
+        for (int i = 0; i < 16; i++) {
+            isAgreed &= isCallAgreed("least", new Object[] {i / 4, i % 4});
+        }
+        return isAgreed;
+    }
+
+    /** Searches whose corpus and whose classes are more than there may be. */
+    private boolean isSearchAgreed() {
+        String[] codes = {"re<<<<jxx<<x", "re<<<<<<<<j", "rre<<<=jxx<=x"};
+        String code = codes[random.nextInt(codes.length)];
+        boolean isAgreed = areAgreed("number 0:0 255:255", "list 0:0 2:8", "program");
+        for (int i = 0; i < code.length(); i++) {
+            int target = code.charAt(i) == 'e' ? between(code.length() / 2, code.length()) : between(0, i / 2);
+            isAgreed &= isCallAgreed("instruct", new Object[] {0, code.charAt(i), 20 * i, target});
+        }
+        isAgreed &= areAgreed("search 0:0 1:1 seed 60:100", "corpus", "covered", "classes", "isSound");
+        for (int i = 0; i < naive.sizeOf("row"); i++) {
+            isAgreed &= isCallAgreed("energy", new Object[] {i}) && isCallAgreed("corpusDraw", new Object[] {i, 0})
+                    && isCallAgreed("corpusDraw", new Object[] {i, 2});
+        }
+        for (int i = 0; i < naive.sizeOf("found"); i++) {
+            isAgreed &= isCallAgreed("foundClass", new Object[] {i}) && isCallAgreed("leastLength", new Object[] {i});
+        }
+        return isAgreed;
     }
 
     private String setUpCall(int i) {

@@ -1253,9 +1253,9 @@ public final class PromiseTest {
         due(true, () -> x.corpus() > 1 && x.corpus() <= 20);
         Shrinkery full = new Shrinkery();
         full.number(0, 255);
-        full.list(0, 4);
+        full.list(0, 7);
         code(full, "r e:15 <28:0 <56:0 <84:0 <112:0 <140:0 <168:0 <196:0 <224:0 j:0");
-        due(20, () -> full.search(0, 1, 0, 100));
+        due(20, () -> full.search(0, 1, 19, 100));
         due(20, full::corpus);
         due(OUT, () -> full.corpusDraw(20, 0));
     }
@@ -1318,15 +1318,12 @@ public final class PromiseTest {
         // More than ten classes, by the last three jumps.
         Shrinkery many = new Shrinkery();
         many.number(0, 255);
-        many.list(0, 7);
-        code(many, "r e:6 <85:0 <170:0 j:0 x0 x1");
-        int most = 0;
-        for (int seed = 0; seed < 60; seed++) {
-            many.search(0, 1, seed, 100);
-            most = Math.max(most, many.classes());
-        }
-        int top = most;
-        due(10, () -> top);
+        many.list(0, 3);
+        code(many, "r e:9 <50:0 <100:0 <150:0 <200:0 j:0 x0 x1 <60:8 <120:7 x4");
+        many.search(0, 1, 24, 100);
+        due(10, many::classes);
+        due(OUT, () -> many.foundClass(10));
+        due(true, many::isSound);
     }
 
     static void promise46() {
