@@ -1201,6 +1201,23 @@ public final class PromiseTest {
         due(0, () -> x.search(0, 2, 0, 100));
         due(0, x::covered);
         due(true, () -> x.search(0, 1, 3, 100) > 1);
+        // Rows of 60 draws, 32 of them for values that are dropped: no number is put into them.
+        Shrinkery full = new Shrinkery();
+        full.number(0, 0);
+        int[][] pairs = {{0, 0}, {1, 1}, {2, 2}, {3, 3}, {4, 4}};
+        for (int[] both : pairs) {
+            full.pair(both[0], both[1]);
+        }
+        full.depends(5, 0);
+        full.pair(4, 3);
+        full.pair(7, 2);
+        full.pair(6, 8);
+        code(full, "r");
+        due(28, () -> full.draw(9, 1));
+        due(60, full::draws);
+        due(1, () -> full.search(0, 9, 1, 100));
+        due(drawOf(1, 60), () -> full.corpusDraw(0, 59));
+        due(OUT, () -> full.corpusDraw(0, 60));
         // A round of its own: the first one changes the row of the seed by the first three numbers of the seed.
         for (int seed = 0; seed < 40; seed++) {
             due(firstRound(seed), oneRound(seed));
@@ -1745,6 +1762,15 @@ public final class PromiseTest {
         code(two, "+1 +1 +1 +1 j:15 +1 +1 +1 o");
         code(two, "+2 j:7 +2 +2 +2 +2 +2 x1 r");
         due(16 + 128, () -> two.least(0, 1));
+        // Of 15 changes no half breaks; of the quarters the second one does, 4 to 7; then there are two parts again,
+        // of which the first one breaks, though 6 and 7 would as well.
+        Shrinkery quarter = new Shrinkery();
+        quarter.number(0, 255);
+        quarter.property('s', 0, 0);
+        quarter.run(0, 0, 2, 30, 0);
+        code(quarter, "+0 +0 +0 +0 +1 +0 +0 +0 <99:15 +0 +0 +0 x9 +0 j:15");
+        code(quarter, "j:14 +3 +3 +3 +2 =2:12 +1 =2:12 j:15 +1 +1 +1 x8 +1 x7");
+        due(16 + 32, () -> quarter.least(0, 1));
         // What is of no meaning is no change.
         Shrinkery same = new Shrinkery();
         same.number(0, 255);
