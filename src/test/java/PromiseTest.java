@@ -1,104 +1,15 @@
 /** For each promise of the document: ordinary inputs, the edges that the document names, and wrong inputs. */
-public final class PromiseTest {
-    private static final Class<?> IAE = IllegalArgumentException.class;
-    private static final Class<?> ISE = IllegalStateException.class;
-    private static final Class<?> OUT = IndexOutOfBoundsException.class;
-    private static final Class<?> NONE = java.util.NoSuchElementException.class;
-    private static final Class<?> UNSUPPORTED = UnsupportedOperationException.class;
-    private static final Class<?> ARITHMETIC = ArithmeticException.class;
-    private static final int LEAST = Integer.MIN_VALUE;
-    private static final int MOST = Integer.MAX_VALUE;
-
-    private static int wrong;
-    private static int checks;
-    private static int promise;
-
-    private interface Call {
-        Object answer();
-    }
-
-    private static void due(Object want, Call call) {
-        checks++;
-        Object got;
-        try {
-            got = call.answer();
-        } catch (RuntimeException e) {
-            got = e.getClass();
-        }
-        if (!want.equals(got)) {
-            wrong++;
-            StackTraceElement at = new Throwable().getStackTrace()[1];
-            System.out.println("promise " + promise + ", " + at + ": answered " + got + ", due is " + want);
-        }
-    }
-
-    /** Replays a row; answers all values, joined by commas, or how the call ends. */
-    private static Object made(Shrinkery x, int generator, int... row) {
-        x.erase();
-        for (int draw : row) {
-            x.type(draw);
-        }
-        int count = x.replay(generator);
-        return values(x, count);
-    }
-
-    private static String values(Shrinkery x, int count) {
-        StringBuilder all = new StringBuilder();
-        for (int i = 0; i < count; i++) {
-            all.append(i == 0 ? "" : ",").append(x.value(i));
-        }
-        return all.toString();
-    }
-
-    private static String failure(Shrinkery x, boolean isRow) {
-        StringBuilder all = new StringBuilder();
-        for (int i = 0; i < 100; i++) {
-            try {
-                int one = isRow ? x.failureDraw(i) : x.failureValue(i);
-                all.append(i == 0 ? "" : ",").append(one);
-            } catch (IndexOutOfBoundsException e) {
-                return all.toString();
-            }
-        }
-        return all.toString();
-    }
-
-    /** Adds a program: instructions as kind, k and, behind a colon, t. */
-    private static int code(Shrinkery x, String text) {
-        int program = x.program();
-        for (String part : text.split(" ")) {
-            if (part.isEmpty()) {
-                continue;
-            }
-            String[] numbers = part.substring(1).split(":");
-            int k = numbers[0].isEmpty() ? 0 : Integer.parseInt(numbers[0]);
-            x.instruct(program, part.charAt(0), k, numbers.length > 1 ? Integer.parseInt(numbers[1]) : 0);
-        }
-        return program;
-    }
-
-    /** The draw of a number of a seed, from 1 on. */
-    private static int drawOf(int seed, int number) {
-        int z = seed;
-        for (int i = 0; i < number; i++) {
-            z = z * 1103515245 + 12345;
-        }
-        return z >>> 16 & 255;
-    }
-
+public final class PromiseTest extends Checks {
     public static void main(String[] args) throws ReflectiveOperationException {
-        for (promise = 1; promise <= 65; promise++) {
+        for (int promise = 1; promise <= 65; promise++) {
+            about = "promise " + promise;
             int before = checks;
             PromiseTest.class.getDeclaredMethod("promise" + promise).invoke(null);
             if (checks == before) {
-                wrong++;
-                System.out.println("promise " + promise + " has no test");
+                tellWrong("there is no test");
             }
         }
-        System.out.println(checks + " checks of 65 promises, " + wrong + " wrong");
-        if (wrong != 0) {
-            System.exit(1);
-        }
+        end("65 promises");
     }
 
     static void promise1() {
@@ -1004,15 +915,6 @@ public final class PromiseTest {
         x.require(0, 2, 0);
         x.run(0, 0, 1, 9, 9);
         due(ARITHMETIC, x::unseen);
-    }
-
-    /** The first seed whose first two draws are these. */
-    private static int seedOf(int first, int second) {
-        int seed = 0;
-        while (drawOf(seed, 1) != first || drawOf(seed, 2) != second) {
-            seed++;
-        }
-        return seed;
     }
 
     /** A failure of two draws, of a pair whose sum is above k, and of a rest by m. */
