@@ -40,6 +40,18 @@ final class GrammarSentences extends Sentences {
             due(ISE, () -> x.produce(nonterminal, 10, -1, -1, -1));
             due(99, () -> x.letterAt(nonterminal, 2, 0, 0));
         }
+        // The nonterminal 0 is a symbol at each place, and its words are made there.
+        Shrinkery zero = new Shrinkery();
+        zero.produce(0, 77, -1, -1, -1);
+        zero.produce(1, 0, 10, -1, -1);
+        zero.produce(2, 10, 0, -1, -1);
+        zero.produce(3, 10, 11, 0, -1);
+        zero.produce(4, 10, 11, 12, 0);
+        due("77 10", () -> word(zero, 1, 2, 0));
+        due("10 77", () -> word(zero, 2, 2, 0));
+        due("10 11 77", () -> word(zero, 3, 3, 0));
+        due("10 11 12 77", () -> word(zero, 4, 4, 0));
+        due(0, () -> zero.words(4, 3) + zero.words(3, 2) + zero.words(2, 1) + zero.words(1, 1));
         Shrinkery y = new Shrinkery();
         for (int none : new int[] {-2, 6, 9, 100, LEAST, MOST}) {
             due(IAE, () -> y.produce(0, none, -1, -1, -1));
@@ -313,12 +325,13 @@ final class GrammarSentences extends Sentences {
         due(252, () -> leastOf(powers(8), 255, 252, 243));
         due(243, () -> leastOf(powers(8), 255, 243, 207));
         due(63, () -> leastOf(powers(8), 255, 63));
-        // Of four parts there are three then: 2 and 3, 4 and 5, 6 and 7.
-        due(240, () -> leastOf(powers(8), 255, 252, 240, 28));
-        due(60, () -> leastOf(powers(8), 255, 252, 60, 188));
-        // Of three parts there are two then: 4 and 5, 6 and 7; and of two they are two still.
-        due(48, () -> leastOf(powers(8), 255, 252, 240, 48));
-        due(192, () -> leastOf(powers(8), 255, 252, 240, 192));
+        // Without the first one of four parts there are three then: 2 and 3, 4 and 5, 6 and 7; neither two, of which
+        // 2 to 4 would be one, nor four, of which 6 would be one.
+        due(204, () -> leastOf(powers(8), 255, 252, 204, 28));
+        due(60, () -> leastOf(powers(8), 255, 252, 60, 64));
+        // Behind three there are two, then four: without 2, of 2, 3, 6 and 7, comes ahead of that without 6.
+        due(200, () -> leastOf(powers(8), 255, 252, 204, 200, 140));
+        due(192, () -> leastOf(powers(8), 255, 252, 192));
         due(6, () -> leastOf(powers(3), 7, 6));
         due(5, () -> leastOf(powers(3), 7, 5));
         due(3, () -> leastOf(powers(3), 7, 3));
@@ -340,7 +353,9 @@ final class GrammarSentences extends Sentences {
         due(255, () -> leastOf(powers(8), 255));
         due(254, () -> leastOf(powers(8), 255, 254));
         due(127, () -> leastOf(powers(8), 255, 127));
-        // Eight of seven are seven: without one of them.
+        // Behind four there are eight, not six: without the first one, not without 4.
+        due(254, () -> leastOf(powers(8), 255, 254, 239));
+        // Twice four are eight, of seven they are seven: without one of them.
         due(95, () -> leastOf(powers(7), 127, 95));
     }
 

@@ -229,6 +229,8 @@ final class MachineSentences extends Sentences {
         due(2, further::breaksAt);
         // All begins anew: as the take is left out the third put can be, before the first one is tried.
         isSmall("0:1 0:2 2:0", queued(2, 1, 0, 1, 1, 0, 0, 2, 0, 3, 2, 0));
+        // And from the last one: without the take it breaks ahead of the last put, which goes then.
+        isSmall("0:1 0:2", queued(1, 3, 0, 1, 1, 0, 0, 2, 0, 3));
         due(NONE, () -> queued(2, 1, 0, 1, 2, 0).makeSmall());
         due(NONE, () -> queued(2, 0, 0, 1, 0, 2, 0, 3).makeSmall());
         // A row of 20 of which each put names the one ahead.
@@ -369,5 +371,14 @@ final class MachineSentences extends Sentences {
         }
         due(false, () -> own.isInOrder(bits));
         due(true, () -> own.isInOrder(0));
+        // The last number is 7 as it should be, but the second row's 5 can't be read behind its own -5.
+        Shrinkery never = new Shrinkery();
+        never.beside(0, 1, 5);
+        never.beside(0, 1, -5);
+        never.beside(0, 1, 7);
+        never.beside(1, 1, -5);
+        never.beside(1, 1, 5);
+        due(5, () -> never.schedule(0b100100101, 1, 1));
+        due(false, () -> never.isInOrder(0b100100101));
     }
 }

@@ -166,6 +166,8 @@ final class ProgramSentences extends Sentences {
         due(-1, () -> fault("j:15 x1"));
         due(3, () -> fault("j:15 x1 x1 x1 x1 x1 x1 x1 x1 x1 x1 x1 x1 x1 x1 x3"));
         due(1, () -> fault("j:2 x1 j:1"));
+        due(5, () -> output("+5 o j:3"));
+        due(0, () -> output("+5 j:2 j:3"));
     }
 
     private static void puts() {
@@ -289,6 +291,13 @@ final class ProgramSentences extends Sentences {
         due(4096, () -> type("r =5:2 x1", 4));
         due(4096 + 256, () -> type("r e:2 x1", 5));
         due(4096, () -> type("r e:2 x1", 5, 6));
+        // Each run has its own: those of another program, run before, are none.
+        Shrinkery x = withInput(5);
+        int three = code(x, "r j:2 j:3 j:4 x1");
+        int one = code(x, "r r e:3 x1");
+        due(4096 + 3 * 256 + 2 * 16 + 1, () -> x.classOf(three));
+        due(4096 + 2 * 256, () -> x.classOf(one));
+        due(4096 + 3 * 256 + 2 * 16 + 1, () -> x.classOf(three));
         // At t that is not there it ends, without a fault and so without a class.
         due(UNSUPPORTED, () -> type("r j:3 x1"));
         due(UNSUPPORTED, () -> type("r <9:15 x1"));

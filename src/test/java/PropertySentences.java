@@ -411,6 +411,23 @@ final class PropertySentences extends Sentences {
         int seed = first;
         x.run(0, 2, seed, 2, 0);
         due(1.0, x::unseen);
+        // Two rows of two values are alike if both are, in their order.
+        Shrinkery two = new Shrinkery();
+        two.number(0, 1);
+        two.pair(0, 0);
+        two.property('s', 255, 0);
+        for (int many = 1; many <= 12; many++) {
+            int all = many;
+            for (int start = 1; start <= 8; start++) {
+                Map<Integer, Integer> times = new HashMap<>();
+                for (int i = 0; i < many; i++) {
+                    times.merge(drawOf(start + i, 1) % 2 * 2 + drawOf(start + i, 2) % 2, 1, Integer::sum);
+                }
+                double once = times.values().stream().filter(often -> often == 1).count();
+                two.run(0, 1, start, many, 0);
+                due(once / all, two::unseen);
+            }
+        }
         // What breaks is not discarded; what is discarded is neither counted nor compared.
         x.property('s', 0, 0);
         x.run(1, 1, 1, 5, 0);

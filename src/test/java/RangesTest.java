@@ -5,13 +5,16 @@ public final class RangesTest extends Lines {
     public static void main(String[] args) throws IOException {
         readLines("- `", "Returns how many, 0 without", "Returns the number of draws, 0 without",
                 "Returns how many commands there were", "Returns the number of its fault", "Returns the level",
-                "Returns 10 times", "Returns true if it does", "Returns the kind or the number");
+                "Returns 10 times", "Returns true if it does", "Returns the kind or the number",
+                "Returns how many there were.", "Returns their number", "Returns the number divided",
+                "`int disorders()", "`boolean isSound()");
         generators();
         inputs();
         allInputs();
         programs();
         properties();
         runs();
+        shares();
         failures();
         searches();
         queues();
@@ -85,6 +88,14 @@ public final class RangesTest extends Lines {
         line(11, "- `generator`: the generator", () -> within(0, 7, OUT, n -> drawn(n)));
         line(11, "- `seed`: the seed", () -> answered(n -> middle().draw(0, n), 0, 1, -1, LEAST, MOST));
         line(12, "- `draw`: the draw, 0 to 255", () -> within(0, 255, IAE, n -> middle().type(n)));
+        line(13, "Returns how many there were.", () -> {
+            due(0, () -> empty().erase());
+            due(5, () -> middle().erase());
+            due(60, () -> full().erase());
+            Shrinkery x = full();
+            x.erase();
+            due(0, x::erase);
+        });
         line(14, "- `generator`: the generator", () -> within(0, 7, OUT, n -> replayed(n)));
         line(15, "- `index`: the index, from 0", () -> {
             within(0, 1, OUT, n -> middle().value(n));
@@ -95,6 +106,9 @@ public final class RangesTest extends Lines {
             due(0, () -> empty().draws());
             due(0, () -> full().draws());
             due(3, () -> middle().draws());
+            due(1, () -> drawnOnly().draws());
+            due(9, () -> drawnOnly().faultOf(0));
+            due(true, () -> drawnOnly().holds(0));
         });
         line(17, "- `index`: the index, from 0", () -> {
             within(0, 2, OUT, n -> middle().drawAt(n));
@@ -286,6 +300,92 @@ public final class RangesTest extends Lines {
         return x;
     }
 
+    /** A house with an input that is drawn, and none that is replayed. */
+    private static Shrinkery drawnOnly() {
+        Shrinkery x = new Shrinkery();
+        x.number(0, 255);
+        x.draw(0, 1);
+        code(x, "r x9");
+        x.property('s', 10000, 0);
+        return x;
+    }
+
+    private static void shares() {
+        line(35, "Returns the number divided by that of all, both converted to double.", () -> {
+            due(1.0, () -> ofLength(3).unseen());
+            // By 2 there are left 0, 1 and 1, or 1, 0 and 0: one of three comes once.
+            Shrinkery x = new Shrinkery();
+            x.number(0, 1);
+            x.property('s', 1, 0);
+            int seed = 1;
+            while ((drawOf(seed, 1) + drawOf(seed + 1, 1) + drawOf(seed + 2, 1)) % 2 != drawOf(seed, 1) % 2
+                    || drawOf(seed, 1) % 2 == drawOf(seed + 1, 1) % 2) {
+                seed++;
+            }
+            x.run(0, 0, seed, 3, 0);
+            due(1.0 / 3.0, x::unseen);
+        });
+        line(64, "Returns their number divided by that of all, both converted to float.", () -> {
+            Shrinkery x = middle();
+            due(0.5f, x::breakShare);
+            x.run(3, 0, 1, 1, 0);
+            due(1.0f / 3.0f, x::breakShare);
+            x.run(0, 8, 1, 1, 0);
+            due(0.25f, x::breakShare);
+            x.run(1, 0, 1, 1, 0);
+            x.run(1, 0, 1, 1, 0);
+            due(0.5f, x::breakShare);
+            x.run(3, 0, 1, 1, 0);
+            due(3.0f / 7.0f, x::breakShare);
+        });
+        line(65, "`boolean isSound()`: Returns whether all is sound: the failure, if there is one, is not discarded as "
+                + "it is replayed, unless a production came since; each least row of a class of the search has its "
+                + "class, unless an instruction or a production came since; the first ten words of each nonterminal "
+                + "and each length up to 4 have this length.", () -> {
+            due(true, () -> empty().isSound());
+            due(true, () -> middle().isSound());
+            due(true, () -> full().isSound());
+            // A production makes another word of the same draws: the failure is discarded, the class another one.
+            Shrinkery x = sound();
+            due(true, x::isSound);
+            due(true, x::isReplayed);
+            x.produce(0, 55, -1, -1, -1);
+            due(false, x::isReplayed);
+            due(true, x::isSound);
+            Shrinkery y = sound();
+            y.require(0, 2, 0);
+            due(false, y::isReplayed);
+            due(true, y::isSound);
+            y.instruct(0, 'x', 3, 0);
+            due(true, y::isSound);
+        });
+    }
+
+    /**
+     * A failure whose one word 52 is dropped, as another one would need more than 60 draws; and a class of the word
+     * 52, for two draws of which the second one is odd.
+     */
+    private static Shrinkery sound() {
+        Shrinkery x = new Shrinkery();
+        x.number(9, 9);
+        x.word(0, 1);
+        for (int i = 0; i < 5; i++) {
+            x.pair(i == 0 ? 0 : i + 1, i == 0 ? 0 : i + 1);
+        }
+        x.depends(1, 6);
+        x.pair(0, 7);
+        x.produce(0, 52, -1, -1, -1);
+        x.property('s', 0, 0);
+        int seed = 1;
+        while (drawOf(seed, 2) % 2 == 0 || drawOf(seed, 3) % 2 == 0) {
+            seed++;
+        }
+        x.run(0, 8, seed, 1, 0);
+        code(x, "r =52:3 j:9 x2");
+        x.search(0, 1, seed, 0);
+        return x;
+    }
+
     private static void failures() {
         line(36, "- `tries`: how many candidates at most, 1 to 400", () -> within(1, 400, IAE, n -> middle().shrink(n)));
         line(38, "- `index`: the index, from 0", () -> within(0, 1, OUT, n -> middle().failureDraw(n)));
@@ -412,6 +512,40 @@ public final class RangesTest extends Lines {
     }
 
     private static void sides() {
+        line(56, "Returns how many there were.", () -> {
+            due(0, () -> empty().apart());
+            due(3, () -> middle().apart());
+            due(8, () -> full().apart());
+            Shrinkery x = empty();
+            x.beside(1, 0, 0);
+            due(1, x::apart);
+            due(0, x::apart);
+        });
+        line(59, "`int disorders() throws UnsupportedOperationException`: Returns how many schedules are not in order, "
+                + "of all with as many bits as there are steps of both rows.", () -> {
+            due(0, () -> empty().disorders());
+            // Of 16 schedules of two adds those are in order that begin with one row's two steps, whatever the bits
+            // behind them are, as that row is over then.
+            due(8, () -> added(5, 7).disorders());
+            due(8, () -> added(5, 5).disorders());
+            // By adding 0 nothing is lost but what the other one wrote ahead of it.
+            due(4, () -> added(0, 7).disorders());
+            due(0, () -> added(0, 0).disorders());
+            due(0, () -> {
+                Shrinkery x = empty();
+                x.beside(0, 1, 3);
+                x.beside(1, 0, 0);
+                return x.disorders();
+            });
+            Shrinkery x = middle();
+            int many = 0;
+            for (int bits = 0; bits < 32; bits++) {
+                many += x.isInOrder(bits) ? 0 : 1;
+            }
+            int counted = many;
+            due(counted, x::disorders);
+            due(true, () -> counted > 0 && counted < 32);
+        });
         line(55, "- `row`: the row, 0 or 1", () -> within(0, 1, OUT, n -> middle().beside(n, 0, 0)));
         line(55, "- `kind`: the kind, 0 or 1", () -> within(0, 1, IAE, n -> middle().beside(0, n, 0)));
         line(55, "- `k`: k, -9 to 9, of no meaning for 0", () -> {
@@ -438,6 +572,13 @@ public final class RangesTest extends Lines {
             due(true, () -> middle().isInOrder(LEAST));
             due(false, () -> middle().isInOrder(LEAST + 2));
         });
+    }
+
+    private static Shrinkery added(int one, int other) {
+        Shrinkery x = empty();
+        x.beside(0, 1, one);
+        x.beside(1, 1, other);
+        return x;
     }
 
     private static void grammars() {

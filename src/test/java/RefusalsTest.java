@@ -424,9 +424,18 @@ public final class RefusalsTest extends Lines {
         });
         line(63, "Throws `NoSuchElementException` if there is no failure, or not even all changes break", () -> {
             inFull(NONE, x -> x.least(0, 1), x -> x.least(5, 5));
+            refused(NONE, RefusalsTest::faulty, x -> x.least(0, 0), x -> x.least(0, 1), x -> x.least(1, 0));
             inMiddle(NONE, x -> x.least(0, 1), x -> x.least(1, 1), x -> x.least(2, 2));
             due(4, () -> middle().least(1, 0));
         });
+    }
+
+    /** Two programs with a fault each, and no failure. */
+    private static Shrinkery faulty() {
+        Shrinkery x = new Shrinkery();
+        code(x, "x1");
+        code(x, "x2");
+        return x;
     }
 
     private static void searches() {

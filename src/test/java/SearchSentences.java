@@ -442,8 +442,19 @@ final class SearchSentences extends Sentences {
             x.number(0, 255);
             x.list(0, 8);
             code(x, "e:4 r +9 j:0");
+            code(x, "e:2 r +0");
             due(1, () -> x.search(0, 1, seed, 1));
             due(5, x::covered);
+            due(1, () -> x.search(1, 1, seed, 1));
+            due(3, x::covered);
+        }
+        // The first instruction is one of them too: with it the number tells of the second one.
+        for (int seed : seeds(3, 3, d -> d[1] % 4 == 3 && d[3] % 6 == 1 && d[1] != 99 && d[1] != 250)) {
+            Shrinkery x = new Shrinkery();
+            x.number(0, 255);
+            code(x, "=7:1 r =99:5 =250:5 +0 +0");
+            due(2, () -> x.search(0, 0, seed, 1));
+            due(99, () -> x.corpusDraw(1, 0));
         }
     }
 
@@ -604,8 +615,11 @@ final class SearchSentences extends Sentences {
         }
         int many = full;
         due(true, () -> many > 5);
+        faultOfNothing();
         // The first input's fault counts too; a shorter row takes the place of the one that is kept.
-        for (int seed : seeds(6, 3, d -> d[1] % 4 == 0 && d[2] % lengthOf(d[1]) == 0 && d[1] % 9 != d[3] % 9)) {
+        List<Integer> others = seeds(3, 3, d -> d[1] % 4 == 0 && d[2] % lengthOf(d[1]) == 0 && d[1] % 9 < d[3] % 9);
+        others.addAll(seeds(3, 3, d -> d[1] % 4 == 0 && d[2] % lengthOf(d[1]) == 0 && d[1] % 9 > d[3] % 9));
+        for (int seed : others) {
             Shrinkery x = new Shrinkery();
             x.number(0, 255);
             x.list(0, 8);
@@ -619,6 +633,20 @@ final class SearchSentences extends Sentences {
             due(1, x::corpus);
             due(Math.min(lengthOf(drawOf(seed, 1)), lengthOf(drawOf(seed, 3))), () -> x.leastLength(0));
         }
+    }
+
+    private static void faultOfNothing() {
+        // The fault 0 is one, and its class may be 0; what ends without a fault has none.
+        Shrinkery x = new Shrinkery();
+        x.number(0, 255);
+        code(x, "x0");
+        code(x, "r");
+        x.search(0, 0, 1, 5);
+        due(1, x::classes);
+        due(0, () -> x.foundClass(0));
+        due(1, () -> x.leastLength(0));
+        x.search(1, 0, 1, 5);
+        due(0, x::classes);
     }
 
     private static void addClass(List<Integer> classes, int value) {

@@ -296,6 +296,19 @@ final class ShrinkingSentences extends Sentences {
         isFirst(16, (a - 1) + "," + b + "," + (c - 1), () -> atLeast(seed, 2, a - 1, b, c - 1));
         isFirst(17, a + "," + (b - 1) + "," + (c - 1), () -> atLeast(seed, 2, a, b - 1, c - 1));
         isNone(() -> atLeast(seed, 3, a - 1, b - 1, c - 1));
+        // Of four places the last two are the sixth ones: behind 8 rows without some, and 3 for each draw.
+        int rising = 0;
+        while (drawOf(rising, 1) < 5 || drawOf(rising, 2) < drawOf(rising, 1) + 9
+                || drawOf(rising, 3) < drawOf(rising, 2) + 9 || drawOf(rising, 4) < drawOf(rising, 3) + 9) {
+            rising++;
+        }
+        int four = rising;
+        for (int i = 0; i < 6; i++) {
+            int[] row = {drawOf(four, 1), drawOf(four, 2), drawOf(four, 3), drawOf(four, 4)};
+            row[i < 3 ? 0 : i < 5 ? 1 : 2]--;
+            row[i < 3 ? i + 1 : i < 5 ? i - 1 : 3]--;
+            isFirst(21 + i, row[0] + "," + row[1] + "," + row[2] + "," + row[3], () -> atLeast(four, 2, row));
+        }
         // With a draw 0 there is none: of three places just the first one and the last one are left.
         int found = 0;
         while (drawOf(found, 1) < 5 || drawOf(found, 2) != 0 || drawOf(found, 3) < 5) {
