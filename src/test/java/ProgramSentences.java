@@ -298,6 +298,8 @@ final class ProgramSentences extends Sentences {
         due(4096 + 3 * 256 + 2 * 16 + 1, () -> x.classOf(three));
         due(4096 + 2 * 256, () -> x.classOf(one));
         due(4096 + 3 * 256 + 2 * 16 + 1, () -> x.classOf(three));
+        int none = code(x, "x1");
+        due(4096, () -> x.classOf(none));
         // At t that is not there it ends, without a fault and so without a class.
         due(UNSUPPORTED, () -> type("r j:3 x1"));
         due(UNSUPPORTED, () -> type("r <9:15 x1"));

@@ -358,6 +358,11 @@ public final class RangesTest extends Lines {
             due(true, y::isSound);
             y.instruct(0, 'x', 3, 0);
             due(true, y::isSound);
+            Shrinkery nothing = middle();
+            code(nothing, "x0");
+            nothing.search(3, 1, 7, 40);
+            due(0, () -> nothing.foundClass(0));
+            due(true, nothing::isSound);
         });
     }
 

@@ -180,6 +180,12 @@ final class SearchSentences extends Sentences {
         due(0, () -> x.search(0, 0, 1, 100));
         due(0, x::covered);
         due(0, x::classes);
+        code(x, "j:0");
+        for (int times = 0; times < 2; times++) {
+            due(1, () -> x.search(1, 1, 1, 0));
+            due(1, x::covered);
+            due(60, () -> x.energy(0));
+        }
     }
 
     private static void greatestEnergy() {
@@ -196,6 +202,25 @@ final class SearchSentences extends Sentences {
                 due(2, () -> x.search(0, 0, seed, rounds));
                 due(of[0], () -> x.energy(0));
                 due(of[1], () -> x.energy(1));
+            }
+        }
+        // Of three rows the greatest one is neither always the first one nor the last one that is above the first one.
+        for (int seed : seeds(2, 6, d -> d[1] % 4 == 0 && d[4] % 4 == 0 && d[3] != d[1] && d[6] != d[1]
+                && d[6] != d[3])) {
+            int[] d = numbersOf(seed, 6);
+            int[] worth = {190 - 20, 130, 100};
+            for (int rounds = 2; rounds <= 50; rounds++) {
+                Shrinkery x = new Shrinkery();
+                x.number(0, 255);
+                code(x, "r =" + d[6] + ":4 =" + d[3] + ":4 +0 +0");
+                x.search(0, 0, seed, rounds);
+                for (int i = 0; i < 3; i++) {
+                    int at = i;
+                    due(worth[at], () -> x.energy(at));
+                }
+                int greatest = worth[1] > worth[0] ? 1 : 0;
+                greatest = worth[2] > worth[greatest] ? 2 : greatest;
+                worth[greatest] -= 10;
             }
         }
     }
@@ -455,6 +480,13 @@ final class SearchSentences extends Sentences {
             code(x, "=7:1 r =99:5 =250:5 +0 +0");
             due(2, () -> x.search(0, 0, seed, 1));
             due(99, () -> x.corpusDraw(1, 0));
+        }
+        for (int seed : seeds(3, 3, d -> d[1] % 4 == 3 && d[3] % 6 == 2 && d[1] != 99 && d[1] != 250)) {
+            Shrinkery x = new Shrinkery();
+            x.number(0, 255);
+            code(x, "=7:1 r =99:5 =250:5 +0 +0");
+            due(2, () -> x.search(0, 0, seed, 1));
+            due(250, () -> x.corpusDraw(1, 0));
         }
     }
 

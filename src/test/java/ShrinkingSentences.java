@@ -338,6 +338,30 @@ final class ShrinkingSentences extends Sentences {
             due(rows[i - 1], () -> failure(x, false));
             due(true, x::isReplayed);
         }
+        // Of nine numbers just an exchange keeps the sum: it is the 53rd candidate, behind 25 without some and 27 that
+        // are lower, each time anew.
+        int nine = 1;
+        while (!isFalling(nine)) {
+            nine++;
+        }
+        int falling = nine;
+        List<Integer> row = rowOf(falling, 9, 1, 2, 3, 4, 5, 6, 7, 8, 9);
+        int all = sum(row);
+        for (int times = 1; times <= 5; times++) {
+            String before = joined(row);
+            int at = 0;
+            while (row.get(at) <= row.get(at + 1)) {
+                at++;
+            }
+            row.set(at, row.set(at + 1, row.get(at)));
+            int most = 53 * times;
+            Shrinkery less = failing(falling, 9, all - 1, 1);
+            due(9, () -> less.shrink(most - 1));
+            due(before, () -> failure(less, true));
+            Shrinkery x = failing(falling, 9, all - 1, 1);
+            due(9, () -> x.shrink(most));
+            due(joined(row), () -> failure(x, true));
+        }
         // Its row is that of the draws that it used: no more, and zeros where there were none.
         Shrinkery list = new Shrinkery();
         list.number(1, 1);
@@ -348,6 +372,16 @@ final class ShrinkingSentences extends Sentences {
         due("8,0,0,0,0,0,0,0,0", () -> failure(list, true));
         due(2, () -> list.shrink(400));
         due("1,0", () -> failure(list, true));
+    }
+
+    /** No draw of nine is 0, and the first four ones fall. */
+    private static boolean isFalling(int seed) {
+        for (int i = 1; i <= 9; i++) {
+            if (drawOf(seed, i) == 0 || i < 4 && drawOf(seed, i) <= drawOf(seed, i + 1)) {
+                return false;
+            }
+        }
+        return true;
     }
 
     /** The number 17, and the rest 8 by 9 as the filter's: what is below 8 is discarded, by the number 2 8 as well. */
