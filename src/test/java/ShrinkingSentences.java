@@ -362,6 +362,21 @@ final class ShrinkingSentences extends Sentences {
             due(9, () -> x.shrink(most));
             due(joined(row), () -> failure(x, true));
         }
+        // Without its first draw the eighth candidate is a row of three; it has 5 candidates without some, 6 that are
+        // lower, none of them for the draws that it had, and then the exchange.
+        int four = 0;
+        while (drawOf(four, 1) % 2 == 0 || drawOf(four, 2) != 0 || drawOf(four, 3) <= drawOf(four, 4)
+                || drawOf(four, 4) == 0) {
+            four++;
+        }
+        int seed = four;
+        isFirst(8, "0," + drawOf(seed, 3) + "," + drawOf(seed, 4), () -> shortened(seed));
+        Shrinkery last = shortened(seed);
+        last.shrink(19);
+        due("0," + drawOf(seed, 3) + "," + drawOf(seed, 4), () -> failure(last, true));
+        Shrinkery next = shortened(seed);
+        next.shrink(20);
+        due("0," + drawOf(seed, 4) + "," + drawOf(seed, 3), () -> failure(next, true));
         // Its row is that of the draws that it used: no more, and zeros where there were none.
         Shrinkery list = new Shrinkery();
         list.number(1, 1);
@@ -372,6 +387,18 @@ final class ShrinkingSentences extends Sentences {
         due("8,0,0,0,0,0,0,0,0", () -> failure(list, true));
         due(2, () -> list.shrink(400));
         due("1,0", () -> failure(list, true));
+    }
+
+    /** An odd first draw makes three numbers, an even one two: so a row of four draws becomes one of three. */
+    private static Shrinkery shortened(int seed) {
+        Shrinkery x = new Shrinkery();
+        x.number(0, 255);
+        x.pair(0, 0);
+        x.pair(1, 0);
+        x.choice(1, 2, 1);
+        x.property('s', drawOf(seed, 3) + drawOf(seed, 4) - 1, 0);
+        x.run(0, 3, seed, 1, 0);
+        return x;
     }
 
     /** No draw of nine is 0, and the first four ones fall. */
