@@ -488,6 +488,25 @@ final class SearchSentences extends Sentences {
             due(2, () -> x.search(0, 0, seed, 1));
             due(250, () -> x.corpusDraw(1, 0));
         }
+        // The first instruction of the next program is none of a program's, though that one has 16.
+        String twelve = " +0 +0 +0 +0 +0 +0 +0 +0 +0 +0 +0 +0";
+        for (int seed : seeds(6, 3, d -> d[1] % 4 == 3 && d[2] % lengthOf(d[1]) == 0 && d[1] % 9 == 3)) {
+            Shrinkery x = new Shrinkery();
+            x.number(0, 255);
+            x.list(0, 8);
+            code(x, "e:4 r +9 j:0" + twelve);
+            code(x, "=1:0");
+            due(1, () -> x.search(0, 1, seed, 1));
+            due(17, x::covered);
+        }
+        for (int seed : seeds(3, 3, d -> d[1] % 4 == 3 && d[3] % 2 == 1 && d[1] != 99)) {
+            Shrinkery x = new Shrinkery();
+            x.number(0, 255);
+            code(x, "r =99:15 +0 +0" + twelve);
+            code(x, "=7:0");
+            due(2, () -> x.search(0, 0, seed, 1));
+            due(99, () -> x.corpusDraw(1, 0));
+        }
     }
 
     private static void places() {
